@@ -51,10 +51,11 @@ public final class RankedGrammar {
             throw new IllegalArgumentException("a letter is 1 to 3");
         }
         checkBreaches(breaches);
-        if (!(changed instanceof Automaton automaton)) {
+        if (changed instanceof Automaton automaton) {
+            automaton.pointArrow(state, letter, to, breaches);
+        } else {
             throw new IllegalStateException("a keeper has no arrows");
         }
-        automaton.pointArrow(state, letter, to, breaches);
     }
 
     public int setEnd(int demand, int state, int breaches)
@@ -64,10 +65,10 @@ public final class RankedGrammar {
             throw new IndexOutOfBoundsException("no such state");
         }
         checkBreaches(breaches);
-        if (!(changed instanceof Automaton automaton)) {
-            throw new IllegalStateException("a keeper has no states");
+        if (changed instanceof Automaton automaton) {
+            return automaton.changeEnd(state, breaches);
         }
-        return automaton.changeEnd(state, breaches);
+        throw new IllegalStateException("a keeper has no states");
     }
 
     public int setRank(int demand, int rank)
@@ -295,10 +296,9 @@ public final class RankedGrammar {
         private final int[] arrowTo = new int[MOST_STATES * LETTERS];
         private final int[] arrowBreaches = new int[MOST_STATES * LETTERS];
         private final int[] endBreaches = new int[MOST_STATES];
+        // A contest asks for all words of a length: so all are read once, when an arrow changes.
         private final int[] stateAfter = new int[Words.ALL];
         private final int[] breachesAfter = new int[Words.ALL];
-        // A contest asks for all words of a length: they are all read once, behind a change.
-        private boolean hasRead;
 
         Automaton(int states) {
             this.states = states;
@@ -308,7 +308,7 @@ public final class RankedGrammar {
             int arrow = arrowOf(state, letter);
             arrowTo[arrow] = to;
             arrowBreaches[arrow] = breaches;
-            hasRead = false;
+            readAllWords();
         }
 
         int changeEnd(int state, int breaches) {
@@ -318,9 +318,6 @@ public final class RankedGrammar {
         }
 
         int countBreaches(int form, int candidate) {
-            if (!hasRead) {
-                readAllWords();
-            }
             return breachesAfter[candidate] + endBreaches[stateAfter[candidate]];
         }
 
@@ -335,7 +332,6 @@ public final class RankedGrammar {
                 stateAfter[word] = arrowTo[arrow];
                 breachesAfter[word] = breachesAfter[before] + arrowBreaches[arrow];
             }
-            hasRead = true;
         }
 
         private static int arrowOf(int state, int letter) {
