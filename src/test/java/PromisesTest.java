@@ -765,6 +765,11 @@ public final class PromisesTest {
         due.answers("twice the same", true, grammar::isLearnable);
         grammar.teach(13, 12);
         due.answers("12 of 13 cannot win", false, grammar::isLearnable);
+        grammar.withdraw(2);
+        due.answers("without it", true, grammar::isLearnable);
+        RankedGrammar six = withSixDemands();
+        six.teach(1, 2);
+        due.answers("none of 720 orders", false, six::isLearnable);
         ranksAre("isLearnable changes no ranks", grammar, 5, 5, 0);
     }
 
@@ -822,6 +827,16 @@ public final class PromisesTest {
         ranksAre("tongues changes no ranks", grammar, 0, 1, 2);
         grammar.withdraw(0);
         due.answers("2 is told apart by 12 as well", 4, grammar::tongues);
+        grammar.withdraw(1);
+        due.answers("12 alone", 4, grammar::tongues);
+        grammar.withdraw(0);
+        due.answers("without pairs again", 1, grammar::tongues);
+        grammar.teach(1, 1);
+        due.answers("1 alone: itself, or 3", 2, grammar::tongues);
+        grammar.teach(12, 12);
+        due.answers("1 and 12", 4, grammar::tongues);
+        grammar.withdraw(1);
+        due.answers("1 alone again", 2, grammar::tongues);
     }
 
     private void promise21Edges() {
