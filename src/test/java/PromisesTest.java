@@ -62,6 +62,7 @@ public final class PromisesTest {
         promise18GivesRanks();
         promise18AllAtOnce();
         promise18Edges();
+        promise18TenLongPairs();
         promise18CannotBeLearned();
         promise19SomeOrder();
         promise20WhatIsLeft();
@@ -69,6 +70,7 @@ public final class PromisesTest {
         promise21Tongues();
         promise21Edges();
         promise21AllOrders();
+        promise21FormsTogether();
     }
 
     // ---- what the tests build
@@ -729,6 +731,18 @@ public final class PromisesTest {
         due.answers("six keepers against it", RankedGrammar.NONE, six::learn);
     }
 
+    private void promise18TenLongPairs() {
+        RankedGrammar grammar = avoidersRoundKeeper();
+        for (int i = 0; i < 10; i++) {
+            grammar.teach(12321, 32323);
+        }
+        due.answers("ten long pairs", 3, grammar::learn);
+        ranksAre("ten long pairs", grammar, 0, 1, 2);
+        due.answers("ten long pairs", true, grammar::isLearnable);
+        due.answers("ten long pairs", 0, grammar::unexplained);
+        due.answers("ten long pairs", 4, grammar::tongues);
+    }
+
     private void promise18CannotBeLearned() {
         RankedGrammar grammar = avoidersRoundKeeper();
         grammar.setRank(0, 3);
@@ -871,5 +885,19 @@ public final class PromisesTest {
         due.answers("13", false, () -> grammar.canWin(11, 13));
         due.answers("unexplained", 0, grammar::unexplained);
         due.answers("isLearnable", true, grammar::isLearnable);
+    }
+
+    /** One order must give the winners of all forms: each form alone has fewer tongues. */
+    private void promise21FormsTogether() {
+        RankedGrammar grammar = avoidersRoundKeeper();
+        grammar.teach(1, 1);
+        due.answers("1: itself, or 3", 2, grammar::tongues);
+        grammar.teach(2, 2);
+        due.answers("2: itself, or 3, whatever 1 is", 4, grammar::tongues);
+        grammar.teach(3, 3);
+        due.answers("3 is always the best", 4, grammar::tongues);
+        due.answers("1 of 1 and 2 of 2", true, grammar::isLearnable);
+        avoid(grammar, 3);
+        due.answers("all kept, 6 with one avoider above keep, 3 with more", 10, grammar::tongues);
     }
 }
