@@ -1,4 +1,4 @@
-/** Compares answers with those that are due, prints what differs, and ends with exit code 1 then. */
+/** Compares answers with those that are due, prints what differs, and ends with code 1 then. */
 final class Due {
     /** A call whose answer, or exception, is looked at. */
     interface Call {
@@ -7,13 +7,19 @@ final class Due {
 
     private int wrong = 0;
     private int seen = 0;
+    private String sentence = "";
+
+    /** The sentence of the document that the next answers are due by. */
+    void sentence(String text) {
+        sentence = " (" + text + ")";
+    }
 
     void answers(String what, Object want, Call call) {
         Object got = outcome(call);
         seen++;
         if (!want.equals(got)) {
             wrong++;
-            System.out.println(what + " answered " + got + ", due is " + want);
+            System.out.println(what + " answered " + got + ", due is " + want + sentence);
         }
     }
 

@@ -2,10 +2,6 @@
 public final class PromisesTest {
     private static final int LEAST = Integer.MIN_VALUE;
     private static final int MOST = Integer.MAX_VALUE;
-    private static final int[] NO_WORDS = {
-        LEAST, -123, -1, 0, 4, 9, 10, 20, 14, 41, 102, 210, 1114, 11011, 43333, 33334, 40000,
-        111111, 333333, 1111111, 1111111111, MOST
-    };
 
     private final Due due = new Due();
 
@@ -75,45 +71,6 @@ public final class PromisesTest {
 
     // ---- what the tests build
 
-    /** A demand that counts the places with this letter. */
-    private static int avoid(RankedGrammar grammar, int letter) {
-        int demand = grammar.addAutomaton(1);
-        grammar.setArrow(demand, 0, letter, 0, 1);
-        return demand;
-    }
-
-    /** 0: no letter 1; 1: no letter 2; 2: no letter 3. */
-    private static RankedGrammar avoiders() {
-        RankedGrammar grammar = new RankedGrammar();
-        for (int letter = 1; letter <= 3; letter++) {
-            avoid(grammar, letter);
-        }
-        return grammar;
-    }
-
-    /** 0: no letter 1; 1: stay like the form; 2: no letter 2. */
-    private static RankedGrammar avoidersRoundKeeper() {
-        RankedGrammar grammar = new RankedGrammar();
-        avoid(grammar, 1);
-        grammar.addKeeper(0);
-        avoid(grammar, 2);
-        return grammar;
-    }
-
-    private static RankedGrammar withSixDemands() {
-        RankedGrammar grammar = new RankedGrammar();
-        for (int i = 0; i < 6; i++) {
-            grammar.addKeeper(0);
-        }
-        return grammar;
-    }
-
-    private static Object arrow(RankedGrammar grammar, int demand, int state, int letter, int to,
-            int breaches) {
-        grammar.setArrow(demand, state, letter, to, breaches);
-        return "set";
-    }
-
     private void ranksAre(String what, RankedGrammar grammar, int... ranks) {
         due.answers(what + ", demands", ranks.length, grammar::demands);
         for (int i = 0; i < ranks.length; i++) {
@@ -149,7 +106,7 @@ public final class PromisesTest {
     }
 
     private void promise1ObjectsShareNothing() {
-        RankedGrammar full = avoiders();
+        RankedGrammar full = Grammars.avoiders();
         full.setRank(0, 5);
         full.teach(1, 2);
         RankedGrammar other = new RankedGrammar();
@@ -168,11 +125,11 @@ public final class PromisesTest {
             due.answers("its last state", 0, () -> grammar.setEnd(states - 1, states - 1, 1));
             due.throwsBound("behind its last state", () -> grammar.setEnd(states - 1, states, 1));
             due.answers("an arrow between its last states", "set",
-                    () -> arrow(grammar, states - 1, states - 1, 3, states - 1, 3));
+                    () -> Grammars.arrow(grammar, states - 1, states - 1, 3, states - 1, 3));
             due.throwsBound("an arrow from behind its last state",
-                    () -> arrow(grammar, states - 1, states, 1, 0, 0));
+                    () -> Grammars.arrow(grammar, states - 1, states, 1, 0, 0));
             due.throwsBound("an arrow behind its last state",
-                    () -> arrow(grammar, states - 1, 0, 1, states, 0));
+                    () -> Grammars.arrow(grammar, states - 1, 0, 1, states, 0));
         }
         due.answers("a fifth one", 4, () -> grammar.addAutomaton(4));
         due.answers("a sixth one", 5, () -> grammar.addAutomaton(1));
@@ -202,7 +159,7 @@ public final class PromisesTest {
             due.throwsArgument("addAutomaton " + states, () -> grammar.addAutomaton(states));
         }
         due.answers("none was added", 0, grammar::demands);
-        RankedGrammar full = withSixDemands();
+        RankedGrammar full = Grammars.withSixDemands();
         due.throwsState("a seventh automaton", () -> full.addAutomaton(1));
         due.throwsArgument("a seventh automaton of 0 states", () -> full.addAutomaton(0));
         due.throwsArgument("a seventh automaton of 5 states", () -> full.addAutomaton(5));
@@ -228,7 +185,7 @@ public final class PromisesTest {
             due.throwsArgument("addKeeper " + letter, () -> grammar.addKeeper(letter));
         }
         due.answers("none was added", 0, grammar::demands);
-        RankedGrammar full = withSixDemands();
+        RankedGrammar full = Grammars.withSixDemands();
         due.throwsState("a seventh keeper", () -> full.addKeeper(0));
         due.throwsArgument("a seventh keeper of -1", () -> full.addKeeper(-1));
         due.throwsArgument("a seventh keeper of 4", () -> full.addKeeper(4));
@@ -239,16 +196,16 @@ public final class PromisesTest {
         RankedGrammar grammar = new RankedGrammar();
         grammar.addAutomaton(3);
         grammar.addAutomaton(3);
-        due.answers("0 -1-> 1, 1 breach", "set", () -> arrow(grammar, 0, 0, 1, 1, 1));
-        due.answers("1 -2-> 2, 2 breaches", "set", () -> arrow(grammar, 0, 1, 2, 2, 2));
-        due.answers("2 -3-> 2, 3 breaches", "set", () -> arrow(grammar, 0, 2, 3, 2, 3));
+        due.answers("0 -1-> 1, 1 breach", "set", () -> Grammars.arrow(grammar, 0, 0, 1, 1, 1));
+        due.answers("1 -2-> 2, 2 breaches", "set", () -> Grammars.arrow(grammar, 0, 1, 2, 2, 2));
+        due.answers("2 -3-> 2, 3 breaches", "set", () -> Grammars.arrow(grammar, 0, 2, 3, 2, 3));
         due.answers("123: 1 + 2 + 3", 6, () -> grammar.breaches(0, 111, 123));
         due.answers("12333", 12, () -> grammar.breaches(0, 11111, 12333));
         due.answers("321: only the last", 1, () -> grammar.breaches(0, 111, 321));
         due.answers("113: the second leads back", 1, () -> grammar.breaches(0, 111, 113));
         due.answers("12131: 1 + 2, then back to 0", 4, () -> grammar.breaches(0, 11111, 12113));
         due.answers("the other automaton stays", 0, () -> grammar.breaches(1, 111, 123));
-        due.answers("1 -2-> 0, 0 breaches", "set", () -> arrow(grammar, 0, 1, 2, 0, 0));
+        due.answers("1 -2-> 0, 0 breaches", "set", () -> Grammars.arrow(grammar, 0, 1, 2, 0, 0));
         due.answers("123 then", 1, () -> grammar.breaches(0, 111, 123));
         due.answers("121 then", 2, () -> grammar.breaches(0, 111, 121));
     }
@@ -258,20 +215,21 @@ public final class PromisesTest {
         grammar.addAutomaton(2);
         grammar.setArrow(0, 0, 1, 0, 2);
         for (int demand : new int[] {LEAST, -1, 1, 6, MOST}) {
-            due.throwsBound("demand " + demand, () -> arrow(grammar, demand, 0, 1, 0, 0));
-            due.throwsBound("it goes first", () -> arrow(grammar, demand, 9, 9, 9, 9));
+            due.throwsBound("demand " + demand, () -> Grammars.arrow(grammar, demand, 0, 1, 0, 0));
+            due.throwsBound("it goes first", () -> Grammars.arrow(grammar, demand, 9, 9, 9, 9));
         }
         for (int state : new int[] {LEAST, -1, 2, 3, MOST}) {
-            due.throwsBound("state " + state, () -> arrow(grammar, 0, state, 1, 0, 0));
-            due.throwsBound("state first", () -> arrow(grammar, 0, state, 0, 0, 4));
-            due.throwsBound("to " + state, () -> arrow(grammar, 0, 0, 1, state, 0));
-            due.throwsBound("to first", () -> arrow(grammar, 0, 0, 4, state, -1));
+            due.throwsBound("state " + state, () -> Grammars.arrow(grammar, 0, state, 1, 0, 0));
+            due.throwsBound("state first", () -> Grammars.arrow(grammar, 0, state, 0, 0, 4));
+            due.throwsBound("to " + state, () -> Grammars.arrow(grammar, 0, 0, 1, state, 0));
+            due.throwsBound("to first", () -> Grammars.arrow(grammar, 0, 0, 4, state, -1));
         }
         for (int wrong : new int[] {LEAST, -1, 4, MOST}) {
-            due.throwsArgument("letter " + wrong, () -> arrow(grammar, 0, 0, wrong, 0, 0));
-            due.throwsArgument("breaches " + wrong, () -> arrow(grammar, 0, 0, 1, 0, wrong));
+            due.throwsArgument("letter " + wrong, () -> Grammars.arrow(grammar, 0, 0, wrong, 0, 0));
+            due.throwsArgument("breaches " + wrong,
+                    () -> Grammars.arrow(grammar, 0, 0, 1, 0, wrong));
         }
-        due.throwsArgument("letter 0", () -> arrow(grammar, 0, 0, 0, 0, 0));
+        due.throwsArgument("letter 0", () -> Grammars.arrow(grammar, 0, 0, 0, 0, 0));
         due.answers("nothing has changed", 6, () -> grammar.breaches(0, 222, 111));
         due.answers("nor the other letters", 0, () -> grammar.breaches(0, 222, 223));
     }
@@ -279,12 +237,14 @@ public final class PromisesTest {
     private void promise4WrongInputsForKeepers() {
         RankedGrammar grammar = new RankedGrammar();
         grammar.addKeeper(2);
-        due.throwsState("a keeper", () -> arrow(grammar, 0, 0, 1, 0, 0));
-        due.throwsState("a keeper, whatever the state", () -> arrow(grammar, 0, -1, 1, 0, 0));
-        due.throwsState("a keeper, wherever to", () -> arrow(grammar, 0, 0, 1, MOST, 3));
-        due.throwsArgument("letter ahead of keeper", () -> arrow(grammar, 0, 0, 4, 0, 0));
-        due.throwsArgument("breaches ahead of keeper", () -> arrow(grammar, 0, 9, 1, 9, 4));
-        due.throwsBound("no demand ahead of all", () -> arrow(grammar, 1, 0, 4, 0, 4));
+        due.throwsState("a keeper", () -> Grammars.arrow(grammar, 0, 0, 1, 0, 0));
+        due.throwsState("a keeper, whatever the state",
+                () -> Grammars.arrow(grammar, 0, -1, 1, 0, 0));
+        due.throwsState("a keeper, wherever to", () -> Grammars.arrow(grammar, 0, 0, 1, MOST, 3));
+        due.throwsArgument("letter ahead of keeper", () -> Grammars.arrow(grammar, 0, 0, 4, 0, 0));
+        due.throwsArgument("breaches ahead of keeper",
+                () -> Grammars.arrow(grammar, 0, 9, 1, 9, 4));
+        due.throwsBound("no demand ahead of all", () -> Grammars.arrow(grammar, 1, 0, 4, 0, 4));
         due.answers("it counts as before", 1, () -> grammar.breaches(0, 212, 112));
     }
 
@@ -369,7 +329,7 @@ public final class PromisesTest {
 
     private void promise9OfAutomata() {
         RankedGrammar grammar = new RankedGrammar();
-        avoid(grammar, 2);
+        Grammars.avoid(grammar, 2);
         due.answers("2 once", 1, () -> grammar.breaches(0, 2, 2));
         due.answers("no 2", 0, () -> grammar.breaches(0, 2, 1));
         due.answers("2 at the front", 1, () -> grammar.breaches(0, 11111, 21111));
@@ -431,7 +391,7 @@ public final class PromisesTest {
             due.throwsBound("demand " + wrong, () -> grammar.breaches(wrong, 1, 1));
             due.throwsBound("demand ahead of words", () -> grammar.breaches(wrong, 0, 14));
         }
-        for (int wrong : NO_WORDS) {
+        for (int wrong : Grammars.NO_WORDS) {
             due.throwsArgument("form " + wrong, () -> grammar.breaches(0, wrong, 1));
             due.throwsArgument("candidate " + wrong, () -> grammar.breaches(1, 11, wrong));
             due.throwsArgument("both " + wrong, () -> grammar.breaches(1, wrong, wrong));
@@ -443,7 +403,7 @@ public final class PromisesTest {
     // ---- winners
 
     private void promise10Candidates() {
-        RankedGrammar grammar = avoiders();
+        RankedGrammar grammar = Grammars.avoiders();
         int[][] rows = {
             {1, 3}, {3, 3}, {11, 9}, {33, 9}, {111, 27}, {333, 27}, {1111, 81}, {3333, 81},
             {11111, 243}, {12321, 243}, {33333, 243},
@@ -451,7 +411,7 @@ public final class PromisesTest {
         for (int[] row : rows) {
             due.answers("candidates " + row[0], row[1], () -> grammar.candidates(row[0]));
         }
-        for (int wrong : NO_WORDS) {
+        for (int wrong : Grammars.NO_WORDS) {
             due.throwsArgument("candidates " + wrong, () -> grammar.candidates(wrong));
         }
     }
@@ -469,7 +429,7 @@ public final class PromisesTest {
     }
 
     private void promise11ByRanks() {
-        RankedGrammar grammar = avoiders();
+        RankedGrammar grammar = Grammars.avoiders();
         int[][] rows = {
             {0, 1, 2, 3333}, {1, 2, 0, 2222}, {5, 4, 3, 1111}, {0, 5, 2, 2222}, {2, 0, 1, 1111},
             {1, 0, 2, 3333}, {3, 0, 0, 1111}, {4, 5, 4, 2222},
@@ -483,7 +443,7 @@ public final class PromisesTest {
     }
 
     private void promise11TiedRanks() {
-        RankedGrammar grammar = avoiders();
+        RankedGrammar grammar = Grammars.avoiders();
         winnersAre("all tied", grammar, 12, 11, 22, 33);
         grammar.setRank(2, 1);
         winnersAre("two tied above", grammar, 12, 33);
@@ -517,15 +477,15 @@ public final class PromisesTest {
     }
 
     private void promise11WrongInputs() {
-        RankedGrammar grammar = avoiders();
-        for (int wrong : NO_WORDS) {
+        RankedGrammar grammar = Grammars.avoiders();
+        for (int wrong : Grammars.NO_WORDS) {
             due.throwsArgument("winners " + wrong, () -> grammar.winners(wrong));
         }
     }
 
     private void promise12InTheOrderOfNumbers() {
         RankedGrammar grammar = new RankedGrammar();
-        avoid(grammar, 2);
+        Grammars.avoid(grammar, 2);
         winnersAre("no 2", grammar, 222, 111, 113, 131, 133, 311, 313, 331, 333);
         grammar.addKeeper(0);
         grammar.setRank(1, 1);
@@ -537,8 +497,8 @@ public final class PromisesTest {
     }
 
     private void promise12WrongInputs() {
-        RankedGrammar grammar = avoiders();
-        for (int wrong : NO_WORDS) {
+        RankedGrammar grammar = Grammars.avoiders();
+        for (int wrong : Grammars.NO_WORDS) {
             due.throwsArgument("form " + wrong, () -> grammar.winnerAt(wrong, 0));
             due.throwsArgument("form ahead of a far place", () -> grammar.winnerAt(wrong, MOST));
             due.throwsBound("a place below 0 ahead of form", () -> grammar.winnerAt(wrong, -1));
@@ -550,7 +510,7 @@ public final class PromisesTest {
     }
 
     private void promise13Winners() {
-        RankedGrammar grammar = avoiders();
+        RankedGrammar grammar = Grammars.avoiders();
         grammar.setRank(1, 1);
         grammar.setRank(2, 1);
         due.answers("33 of 12", true, () -> grammar.isWinner(12, 33));
@@ -566,7 +526,7 @@ public final class PromisesTest {
     }
 
     private void promise14WhateverTheRanks() {
-        RankedGrammar grammar = avoiders();
+        RankedGrammar grammar = Grammars.avoiders();
         for (int rank = 0; rank < 6; rank++) {
             grammar.setRank(0, rank);
             grammar.setRank(1, 5 - rank);
@@ -585,8 +545,8 @@ public final class PromisesTest {
     }
 
     private void promise13And14WrongInputs() {
-        RankedGrammar grammar = avoiders();
-        for (int wrong : NO_WORDS) {
+        RankedGrammar grammar = Grammars.avoiders();
+        for (int wrong : Grammars.NO_WORDS) {
             due.throwsArgument("isWinner " + wrong + " 1", () -> grammar.isWinner(wrong, 1));
             due.throwsArgument("isWinner 11 " + wrong, () -> grammar.isWinner(11, wrong));
             due.throwsArgument("isWinner " + wrong, () -> grammar.isWinner(wrong, wrong));
@@ -619,7 +579,7 @@ public final class PromisesTest {
     private void promise15WrongInputs() {
         RankedGrammar grammar = new RankedGrammar();
         for (int i = 0; i <= 10; i += 10) {
-            for (int wrong : NO_WORDS) {
+            for (int wrong : Grammars.NO_WORDS) {
                 due.throwsArgument("form " + wrong, () -> grammar.teach(wrong, 1));
                 due.throwsArgument("winner " + wrong, () -> grammar.teach(11, wrong));
                 due.throwsArgument("both " + wrong, () -> grammar.teach(wrong, wrong));
@@ -634,7 +594,7 @@ public final class PromisesTest {
     }
 
     private void promise16MovesUp() {
-        RankedGrammar grammar = avoidersRoundKeeper();
+        RankedGrammar grammar = Grammars.avoidersRoundKeeper();
         grammar.teach(1, 3);
         grammar.teach(1, 1);
         grammar.teach(2, 2);
@@ -677,7 +637,7 @@ public final class PromisesTest {
     }
 
     private void promise18GivesRanks() {
-        RankedGrammar grammar = avoidersRoundKeeper();
+        RankedGrammar grammar = Grammars.avoidersRoundKeeper();
         for (int demand = 0; demand < 3; demand++) {
             grammar.setRank(demand, 5);
         }
@@ -694,12 +654,12 @@ public final class PromisesTest {
     }
 
     private void promise18AllAtOnce() {
-        RankedGrammar grammar = avoidersRoundKeeper();
+        RankedGrammar grammar = Grammars.avoidersRoundKeeper();
         grammar.teach(1, 3);
         grammar.teach(2, 2);
         due.answers("no 1, keep, no 2: one at a time", 3, grammar::learn);
         ranksAre("one at a time", grammar, 0, 1, 2);
-        RankedGrammar other = avoiders();
+        RankedGrammar other = Grammars.avoiders();
         other.teach(1, 3);
         other.teach(11, 33);
         due.answers("no 1 and no 2 at once", 2, other::learn);
@@ -712,7 +672,7 @@ public final class PromisesTest {
         due.answers("without demands", 0, without::learn);
         due.answers("without demands", true, without::isLearnable);
         due.answers("without demands", 0, without::unexplained);
-        RankedGrammar grammar = avoiders();
+        RankedGrammar grammar = Grammars.avoiders();
         grammar.setRank(0, 5);
         grammar.setRank(2, 3);
         due.answers("without pairs", 1, grammar::learn);
@@ -724,7 +684,7 @@ public final class PromisesTest {
         alike.teach(12, 21);
         due.answers("all candidates are alike", 1, alike::learn);
         ranksAre("all candidates are alike", alike, 0, 0);
-        RankedGrammar six = withSixDemands();
+        RankedGrammar six = Grammars.withSixDemands();
         six.teach(123, 123);
         due.answers("six keepers at once", 1, six::learn);
         six.teach(1, 2);
@@ -732,7 +692,7 @@ public final class PromisesTest {
     }
 
     private void promise18TenLongPairs() {
-        RankedGrammar grammar = avoidersRoundKeeper();
+        RankedGrammar grammar = Grammars.avoidersRoundKeeper();
         for (int i = 0; i < 10; i++) {
             grammar.teach(12321, 32323);
         }
@@ -744,7 +704,7 @@ public final class PromisesTest {
     }
 
     private void promise18CannotBeLearned() {
-        RankedGrammar grammar = avoidersRoundKeeper();
+        RankedGrammar grammar = Grammars.avoidersRoundKeeper();
         grammar.setRank(0, 3);
         grammar.setRank(1, 5);
         grammar.setRank(2, 1);
@@ -763,7 +723,7 @@ public final class PromisesTest {
     }
 
     private void promise19SomeOrder() {
-        RankedGrammar grammar = avoiders();
+        RankedGrammar grammar = Grammars.avoiders();
         due.answers("without pairs", true, grammar::isLearnable);
         grammar.teach(12, 33);
         due.answers("33 of 12", true, grammar::isLearnable);
@@ -781,7 +741,7 @@ public final class PromisesTest {
         due.answers("12 of 13 cannot win", false, grammar::isLearnable);
         grammar.withdraw(2);
         due.answers("without it", true, grammar::isLearnable);
-        RankedGrammar six = withSixDemands();
+        RankedGrammar six = Grammars.withSixDemands();
         six.teach(1, 2);
         due.answers("none of 720 orders", false, six::isLearnable);
         ranksAre("isLearnable changes no ranks", grammar, 5, 5, 0);
@@ -789,7 +749,7 @@ public final class PromisesTest {
 
     private void promise20WhatIsLeft() {
         RankedGrammar grammar = new RankedGrammar();
-        avoid(grammar, 1);
+        Grammars.avoid(grammar, 1);
         grammar.teach(12, 12);
         due.answers("22, 23, 32, 33, and 11 as well", 5, grammar::unexplained);
         grammar.teach(2, 1);
@@ -798,9 +758,9 @@ public final class PromisesTest {
         due.answers("2, 3", 2, grammar::unexplained);
         grammar.addKeeper(2);
         due.answers("2 has fewer of both", 2, grammar::unexplained);
-        avoid(grammar, 2);
+        Grammars.avoid(grammar, 2);
         due.answers("no 2 explains 2 away", 1, grammar::unexplained);
-        avoid(grammar, 3);
+        Grammars.avoid(grammar, 3);
         due.answers("no 3 explains 3 away", 0, grammar::unexplained);
         ranksAre("unexplained changes no ranks", grammar, 0, 0, 0, 0);
     }
@@ -823,7 +783,7 @@ public final class PromisesTest {
 
     private void promise21Tongues() {
         RankedGrammar grammar = new RankedGrammar();
-        avoid(grammar, 1);
+        Grammars.avoid(grammar, 1);
         grammar.addKeeper(0);
         due.answers("without pairs", 1, grammar::tongues);
         grammar.teach(2, 2);
@@ -832,7 +792,7 @@ public final class PromisesTest {
         due.answers("12, or 22 and 32", 2, grammar::tongues);
         grammar.teach(12, 12);
         due.answers("the words do not matter", 2, grammar::tongues);
-        avoid(grammar, 2);
+        Grammars.avoid(grammar, 2);
         due.answers("no 1, no 2, keep", 4, grammar::tongues);
         for (int demand = 0; demand < 3; demand++) {
             grammar.setRank(demand, demand);
@@ -862,7 +822,7 @@ public final class PromisesTest {
         grammar.addKeeper(0);
         due.answers("the same demand again", 1, grammar::tongues);
         grammar.withdraw(0);
-        avoid(grammar, 1);
+        Grammars.avoid(grammar, 1);
         due.answers("without pairs", 1, grammar::tongues);
         grammar.teach(3, 1);
         due.answers("a form that all agree on", 1, grammar::tongues);
@@ -889,7 +849,7 @@ public final class PromisesTest {
 
     /** One order must give the winners of all forms: each form alone has fewer tongues. */
     private void promise21FormsTogether() {
-        RankedGrammar grammar = avoidersRoundKeeper();
+        RankedGrammar grammar = Grammars.avoidersRoundKeeper();
         grammar.teach(1, 1);
         due.answers("1: itself, or 3", 2, grammar::tongues);
         grammar.teach(2, 2);
@@ -897,7 +857,7 @@ public final class PromisesTest {
         grammar.teach(3, 3);
         due.answers("3 is always the best", 4, grammar::tongues);
         due.answers("1 of 1 and 2 of 2", true, grammar::isLearnable);
-        avoid(grammar, 3);
+        Grammars.avoid(grammar, 3);
         due.answers("all kept, 6 with one avoider above keep, 3 with more", 10, grammar::tongues);
     }
 }
