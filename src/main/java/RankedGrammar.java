@@ -388,18 +388,25 @@ public final class RankedGrammar {
         }
 
         int rankAt(int demand) {
-            return list[demand].rank;
+            Demand ranked = find(demand);
+            return ranked == null ? 0 : ranked.rank;
         }
 
         void putRank(int demand, int rank) {
-            list[demand].rank = rank;
+            Demand ranked = find(demand);
+            if (ranked != null) {
+                ranked.rank = rank;
+            }
         }
 
         /** The breaches of all demands, in one number. */
         int profileOf(int form, int candidate) {
             int profile = 0;
             for (int demand = 0; demand < count; demand++) {
-                profile |= list[demand].countBreaches(form, candidate) << demand * BITS;
+                Demand counting = find(demand);
+                if (counting != null) {
+                    profile |= counting.countBreaches(form, candidate) << demand * BITS;
+                }
             }
             return profile;
         }

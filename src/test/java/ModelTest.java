@@ -29,6 +29,7 @@ public final class ModelTest {
             ModelTest test = new ModelTest(run, 4 + run % 2, run % 4 < 2);
             wrong += test.go(run, 50);
         }
+        wrong += new ModelTest(0, 5, true).manyTongues();
         System.out.println("ModelTest: " + wrong + " runs not as due");
         if (wrong > 0) {
             System.exit(1);
@@ -45,6 +46,44 @@ public final class ModelTest {
             }
         }
         return 0;
+    }
+
+    /** Ten long forms by which most of the 720 orders are told apart. */
+    private int manyTongues() {
+        int[][] arrows = {
+            {4, 13, 10, 1, 13, 9, 8, 0, 4, 9, 0, 12}, {12, 0, 4, 10, 2, 12, 4, 14, 6, 0, 10, 8},
+            {7, 2, 7, 9, 8, 5, 14, 13, 13, 9, 9, 15},
+        };
+        int[][] ends = {{1, 1, 1, 1}, {2, 1, 1, 1}, {1, 1, 2, 2}};
+        int[] forms = {22323, 12132, 3321, 31331, 1111, 13233, 33323, 13311, 2313, 3333};
+        String text = "";
+        for (int i = 0; i < 3; i++) {
+            int letter = i;
+            text += both("addKeeper", () -> grammar.addKeeper(letter), () -> plain.addKeeper(letter));
+        }
+        for (int i = 3; i < 6; i++) {
+            text += both("addAutomaton", () -> grammar.addAutomaton(4), () -> plain.addAutomaton(4));
+            for (int j = 0; j < 12; j++) {
+                int arrow = arrows[i - 3][j];
+                grammar.setArrow(i, j / 3, j % 3 + 1, arrow / 4, arrow % 4);
+                plain.setArrow(i, j / 3, j % 3 + 1, arrow / 4, arrow % 4);
+            }
+            for (int state = 0; state < 4; state++) {
+                grammar.setEnd(i, state, ends[i - 3][state]);
+                plain.setEnd(i, state, ends[i - 3][state]);
+            }
+        }
+        for (int form : forms) {
+            text += both("winners", () -> grammar.winners(form), () -> plain.winners(form));
+            int word = plain.winnerAt(form, 0);
+            text += both("teach", () -> grammar.teach(form, word), () -> plain.teach(form, word));
+        }
+        text += both("tongues", () -> grammar.tongues(), () -> plain.tongues());
+        text += both("tongues", () -> grammar.tongues(), () -> 399);
+        text += both("isLearnable", () -> grammar.isLearnable(), () -> plain.isLearnable());
+        text += both("unexplained", () -> grammar.unexplained(), () -> plain.unexplained());
+        System.out.print(text.isEmpty() ? "" : "many tongues: " + text + "\n");
+        return text.isEmpty() ? 0 : 1;
     }
 
     private String build() {
